@@ -193,6 +193,8 @@ public final class ForecastTest {
         checks.due("nextToCut(0), more cut than the shares", x.nextToCut(0), -9);
         x.endYear();
         checks.due("nextToCut(0) in a new year", x.nextToCut(0), 1);
+        x.grant(0, 0, 1);
+        checks.due("nextToCut(0), 1, 1 and 0", x.nextToCut(0), 0);
     }
 
     private static void nothingChanges() {

@@ -15,6 +15,7 @@ public final class LookingTest {
         sharesFollow();
         sharesAtTheEdges();
         edgeOfDry();
+        fullParish();
         checks.end();
     }
 
@@ -199,5 +200,45 @@ public final class LookingTest {
         checks.due("dryIn(0, 0, 0) at 30001", y.dryIn(0, 0, 0), -9);
         y.cart(0, 2);
         checks.due("household(0, 2)", y.household(0, 2), 2);
+    }
+
+    /** As many households, banks and stacks as there can be. */
+    private static void fullParish() {
+        PeatShares x = new PeatShares();
+        for (int household = 0; household < 6; household++) {
+            x.come(1);
+        }
+        for (int bank = 0; bank < 4; bank++) {
+            x.addBank(600, 1000);
+            for (int household = 0; household < 6; household++) {
+                x.grant(household, bank, 1);
+            }
+        }
+        for (int stack = 0; stack < 12; stack++) {
+            checks.due("cut()", x.cut(stack % 6, stack % 4, stack + 1), stack);
+        }
+        x.day(9, 0);
+        for (int household = 0; household < 6; household++) {
+            checks.due("household(i, 3)", x.household(household, 3), 4);
+            checks.due("household(i, 4)", x.household(household, 4), 2);
+            checks.due("household(i, 5)", x.household(household, 5), 2 * household + 8);
+            checks.due("right(i, 3, 0)", x.right(household, 3, 0), 100);
+        }
+        for (int bank = 0; bank < 4; bank++) {
+            checks.due("bank(i, 4)", x.bank(bank, 4), 63);
+            checks.due("bank(i, 6)", x.bank(bank, 6), 3 * bank + 15);
+            checks.due("nextToCut(i)", x.nextToCut(bank), bank % 2 == 0 ? 1 : 0);
+        }
+        checks.due("count(4)", x.count(4), 0);
+        checks.due("household(6, 0)", x.household(6, 0), -1);
+        checks.due("bank(4, 0)", x.bank(4, 0), -1);
+        checks.due("stack(12, 0)", x.stack(12, 0), -1);
+        checks.due("cart(0, 1)", x.cart(0, 1), 2);
+        checks.due("stack(10, 2), the last one", x.stack(10, 2), 12);
+        checks.due("endYear()", x.endYear(), 77);
+        for (int bank = 0; bank < 4; bank++) {
+            checks.due("bank(i, 6)", x.bank(bank, 6), 0);
+            checks.due("bank(i, 8)", x.bank(bank, 8), 3 * bank + (bank == 0 ? 14 : 15));
+        }
     }
 }

@@ -85,6 +85,12 @@ public final class ProgramTest {
         checks.due("house 1;;", Checks.program(x, "house 1;;"), -1008);
         checks.due("5", Checks.program(x, " 5;"), -1001);
         checks.due("a word that is none", Checks.program(x, "house 1; join 0 1;"), -1009);
+        checks.due("a longer word, z", Checks.program(x, "housez 1;"), -1000);
+        checks.due("a longer word, a", Checks.program(x, "housea 1;"), -1000);
+        checks.due("a sign ahead of a", Checks.program(x, "house` 1;"), -1005);
+        checks.due("a sign behind z", Checks.program(x, "house{ 1;"), -1005);
+        checks.due("a sign ahead of 0", Checks.program(x, "house 1/;"), -1007);
+        checks.due("a sign behind 9", Checks.program(x, "house 1:;"), -1007);
         checks.due("a great letter", Checks.program(x, "House 1;"), -1000);
         checks.due("a great letter behind", Checks.program(x, "houseE 1;"), -1005);
         checks.due("a number missing", Checks.program(x, "bank 1;"), -1006);
@@ -110,6 +116,17 @@ public final class ProgramTest {
             full.append(' ');
         }
         checks.due("140 characters", Checks.program(x, full.toString()), -1140);
+        full.setCharAt(139, 'x');
+        checks.due("140 characters, the last one a letter", Checks.program(x, full.toString()), -1139);
+        full.setCharAt(6, ' ');
+        full.setCharAt(139, '7');
+        checks.due("140 characters, the last one a digit", Checks.program(x, full.toString()), -1140);
+        full.setCharAt(139, ';');
+        full.setCharAt(138, '7');
+        checks.due("140 characters, which are a command", Checks.program(x, full.toString()), 1);
+        checks.due("an earlier text's digits", Checks.program(x, "turn 1234"), -1009);
+        checks.due("house 1 where these stood", Checks.program(x, "house 1"), -1007);
+        checks.due("house where these stood", Checks.program(x, "house"), -1005);
     }
 
     private static void numbers() {

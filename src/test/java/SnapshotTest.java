@@ -8,6 +8,7 @@ public final class SnapshotTest {
         restoreKeepsTheRest();
         slotsAreApart();
         undo();
+        undoOfEachAction();
         undoOfSnapshots();
         sixthStateDropsTheOldest();
         errorsChangeNothing();
@@ -142,6 +143,44 @@ public final class SnapshotTest {
         checks.due("undo()", x.undo(), 0);
         checks.due("count(1)", x.count(1), 0);
         checks.due("count(9)", x.count(9), 3);
+    }
+
+    private static void undoOfEachAction() {
+        for (int action = 0; action < 15; action++) {
+            PeatShares x = parish();
+            x.cut(1, 0, 17);
+            x.take(0);
+            x.turn(3);
+            if (action == 14) {
+                Checks.write(x, "turn 0;");
+            }
+            String before = Checks.seen(x);
+            int states = x.count(8);
+            checks.due("action " + action + " succeeds", act(x, action) >= 0 ? 1 : 0, 1);
+            checks.due("action " + action + " records a state", x.count(8), Math.min(5, states + 1));
+            checks.due("undo() of action " + action, x.undo(), Math.min(4, states));
+            same("all before action " + action, Checks.seen(x), before);
+        }
+    }
+
+    private static int act(PeatShares x, int action) {
+        switch (action) {
+            case 0: return x.come(8);
+            case 1: return x.setSpades(1, 8);
+            case 2: return x.addBank(444, 555);
+            case 3: return x.setAllowance(0, 999);
+            case 4: return x.grant(0, 1, 1);
+            case 5: return x.cut(1, 0, 12);
+            case 6: return x.turn(1);
+            case 7: return x.join(3, 2);
+            case 8: return x.cart(2, 11);
+            case 9: return x.repair(0);
+            case 10: return x.day(9, 9);
+            case 11: return x.endYear();
+            case 12: return x.take(1);
+            case 13: return x.restore(0);
+            default: return x.run();
+        }
     }
 
     private static void undoOfSnapshots() {

@@ -142,6 +142,12 @@ public final class TurfTest {
         checks.due("join(1, 0)", x.join(1, 0), 3);
         // (2 * 85937 + 100000) / 3 = 90624.66
         checks.due("stack(0, 3) after join", x.stack(0, 3), 90625);
+        PeatShares y = parish(1, 5000, 3000);
+        y.cut(0, 0, 1);
+        y.day(9, 0);
+        y.cut(0, 0, 1);
+        y.join(0, 1);
+        checks.due("stack(0, 3), a half rounded up", y.stack(0, 3), 92969);
         x.cut(0, 0, 1000);
         x.cut(0, 0, 1000);
         x.cut(0, 0, 1000);
@@ -304,6 +310,8 @@ public final class TurfTest {
         checks.due("household(0, 2), sheds stay", x.household(0, 2), 40);
         checks.due("bank(0, 5)", x.bank(0, 5), 250);
         checks.due("bank(0, 6)", x.bank(0, 6), 0);
+        checks.due("household(0, 4)", x.household(0, 4), 0);
+        checks.due("household(0, 5)", x.household(0, 5), 0);
         checks.due("right(0, 0, 1)", x.right(0, 0, 1), 0);
         checks.due("right(1, 0, 1)", x.right(1, 0, 1), 0);
         checks.due("right(0, 1, 1)", x.right(0, 1, 1), 0);
