@@ -41,39 +41,47 @@ final class Checks {
         return x.run();
     }
 
-    /** All that can be seen of an object, but for the length of its text and its history. */
+    /**
+     * All that can be seen of an object, but for the length of its text and its history.
+     * Only what exists is looked at, as an object bears no more than 512 calls.
+     */
     static String seen(PeatShares x) {
         StringBuilder all = new StringBuilder();
         for (int what = 0; what <= 7; what++) {
             all.append(x.count(what)).append(' ');
         }
-        for (int household = 0; household < 6; household++) {
+        int households = x.count(1);
+        for (int household = 0; household < households; household++) {
             all.append("\nhousehold");
             for (int what = 0; what <= 5; what++) {
                 all.append(' ').append(x.household(household, what));
             }
         }
-        for (int bank = 0; bank < 4; bank++) {
-            all.append("\nbank");
-            for (int what = 0; what <= 8; what++) {
-                all.append(' ').append(x.bank(bank, what));
-            }
-            all.append(' ').append(x.nextToCut(bank));
-            for (int household = 0; household < 6; household++) {
-                all.append(" |");
-                for (int what = 0; what <= 2; what++) {
-                    all.append(' ').append(x.right(household, bank, what));
-                }
-            }
+        int banks = x.count(2);
+        for (int bank = 0; bank < banks; bank++) {
+            seeBank(x, bank, households, all);
         }
-        for (int stack = 0; stack < 12; stack++) {
+        int stacks = x.count(3);
+        for (int stack = 0; stack < stacks; stack++) {
             all.append("\nstack");
             for (int what = 0; what <= 6; what++) {
                 all.append(' ').append(x.stack(stack, what));
             }
-            all.append(" | ").append(x.cartLoad(stack)).append(' ').append(x.carts(stack));
         }
         return all.toString();
+    }
+
+    private static void seeBank(PeatShares x, int bank, int households, StringBuilder all) {
+        all.append("\nbank");
+        for (int what = 0; what <= 8; what++) {
+            all.append(' ').append(x.bank(bank, what));
+        }
+        for (int household = 0; household < households; household++) {
+            all.append(" |");
+            for (int what = 0; what <= 2; what++) {
+                all.append(' ').append(x.right(household, bank, what));
+            }
+        }
     }
 
     /** All that can be seen of an object. */

@@ -191,45 +191,11 @@ public final class WalkTest {
 
     private void both(String name, int a, int b, int c) {
         int due = model.call(name, a, b, c);
-        int got = answer(name, a, b, c);
+        int got = Calls.answer(x, name, a, b, c);
         callsLeft--;
         if (due >= 0) {
             good.merge(name, 1, Integer::sum);
         }
         checks.due("walk " + walk + ", " + name + "(" + a + ", " + b + ", " + c + ")", got, due);
-    }
-
-    private int answer(String name, int a, int b, int c) {
-        switch (name) {
-            case "come": return x.come(a);
-            case "setSpades": return x.setSpades(a, b);
-            case "addBank": return x.addBank(a, b);
-            case "setAllowance": return x.setAllowance(a, b);
-            case "grant": return x.grant(a, b, c);
-            case "cut": return x.cut(a, b, c);
-            case "turn": return x.turn(a);
-            case "join": return x.join(a, b);
-            case "cart": return x.cart(a, b);
-            case "repair": return x.repair(a);
-            case "day": return x.day(a, b);
-            case "endYear": return x.endYear();
-            case "take": return x.take(a);
-            case "restore": return x.restore(a);
-            case "undo": return x.undo();
-            case "append": return x.append(a);
-            case "clearText": return x.clearText();
-            case "run": return x.run();
-            case "count": return x.count(a);
-            case "household": return x.household(a, b);
-            case "bank": return x.bank(a, b);
-            case "right": return x.right(a, b, c);
-            case "stack": return x.stack(a, b);
-            case "dryIn": return x.dryIn(a, b, c);
-            case "cartLoad": return x.cartLoad(a);
-            case "carts": return x.carts(a);
-            case "worth": return x.worth(a, b);
-            case "nextToCut": return x.nextToCut(a);
-            default: throw new IllegalArgumentException(name);
-        }
     }
 }
