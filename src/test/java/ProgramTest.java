@@ -9,6 +9,7 @@ public final class ProgramTest {
         spaces();
         wrongTokens();
         textThatEnds();
+        fullTextThatEnds();
         numbers();
         failingCommands();
         nothingStays();
@@ -111,6 +112,10 @@ public final class ProgramTest {
         checks.due("house 1 with spaces", Checks.program(x, "house 1   "), -1010);
         checks.due("hou, which is no word", Checks.program(x, "hou"), -1000);
         checks.due("a second one that ends", Checks.program(x, "house 1; cut 0 0"), -1016);
+    }
+
+    private static void fullTextThatEnds() {
+        PeatShares x = new PeatShares();
         StringBuilder full = new StringBuilder("house 1");
         while (full.length() < 140) {
             full.append(' ');
@@ -118,6 +123,7 @@ public final class ProgramTest {
         checks.due("140 characters", Checks.program(x, full.toString()), -1140);
         full.setCharAt(139, 'x');
         checks.due("140 characters, the last one a letter", Checks.program(x, full.toString()), -1139);
+        x = new PeatShares();
         full.setCharAt(6, ' ');
         full.setCharAt(139, '7');
         checks.due("140 characters, the last one a digit", Checks.program(x, full.toString()), -1140);

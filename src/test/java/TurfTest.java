@@ -16,7 +16,6 @@ public final class TurfTest {
         day();
         dryingIsCut();
         endYear();
-        lastYear();
         eachSuccessIsAnAction();
         checks.end();
     }
@@ -321,16 +320,6 @@ public final class TurfTest {
         checks.due("bank(0, 8) of both years", x.bank(0, 8), 410);
         checks.due("bank(0, 5) of both years", x.bank(0, 5), 450);
         checks.due("endYear() without stacks", x.endYear(), 0);
-    }
-
-    /** More calls than are promised; the program keeps its word all the same. */
-    private static void lastYear() {
-        PeatShares x = new PeatShares();
-        for (int year = 1; year <= 999; year++) {
-            checks.due("endYear()", x.endYear(), 0);
-        }
-        checks.due("endYear() in 999", x.endYear(), -2);
-        checks.due("count(0)", x.count(0), 999);
     }
 
     private static void eachSuccessIsAnAction() {
